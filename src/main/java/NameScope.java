@@ -430,7 +430,7 @@ public final class NameScope {
             return has(k) ? besides[k] : NONE;
         }
 
-        // With its parts; only a row that is measured has sizes.
+        // With its parts; a row has sizes from when it is measured until it changes.
         int size(int k) {
             return has(k) ? sizes[k] : 0;
         }
@@ -468,7 +468,6 @@ public final class NameScope {
             makeRoom(other.count);
             System.arraycopy(other.kinds, 0, kinds, 0, other.count);
             System.arraycopy(other.besides, 0, besides, 0, other.count);
-            System.arraycopy(other.sizes, 0, sizes, 0, other.count);
             count = other.count;
         }
 

@@ -76,5 +76,12 @@ public final class ReadTest {
         Due.is("uses of an arrow", Due.bound("1a 5:0 6 0a 0a").uses(2), 0);
         Due.is("uses of a global", Due.bound("0g").uses(0), NONE);
         Due.is("uses in a first part", Due.bound("1g 0g 5:0").uses(0), 0);
+        Due.is("uses behind the last part", Due.bound("1b 5:0 4 1a 5:0 0a 0b").uses(3), 1);
+        Due.lay(x, "1a 5:0 1b 5:0 1c 5:0 1d 5:0 1e 5:0 4 0b 4 0c 4 0d 0z");
+        Due.is("bind() that fails", x.bind(), -2 - 16);
+        Due.is("uses(0) then", x.uses(0), 4);
+        Due.is("contract(2)", x.contract(2), 15);
+        Due.is("uses(0) contracted", x.uses(0), 4);
+        Due.is("uses(2) contracted", x.uses(2), 2);
     }
 }
