@@ -20,6 +20,19 @@ final class Big {
         x.contract(0);
     }
 
+    /**
+     * Lets in one another, each of the one before applied to itself: the last part can use j,
+     * which has 2047 nodes when the nine lets before its own have been contracted.
+     */
+    static String doubled(String last) {
+        StringBuilder nodes = new StringBuilder("3a 4 5:1 5:2 ");
+        for (char each = 'b'; each <= 'j'; each++) {
+            char before = (char) (each - 1);
+            nodes.append("3" + each + " 4 0" + before + " 0" + before + " ");
+        }
+        return nodes + last;
+    }
+
     /** So many leaves, and applications between them. */
     static String chain(String leaf, int leaves) {
         return ("4 " + leaf + " ").repeat(leaves - 1) + leaf;

@@ -57,7 +57,7 @@ public final class RoomTest {
     }
 
     private static void callAll(NameScope x) {
-        for (int i = 0; i < 20; i++) {
+        for (int i = 0; i < 15; i++) {
             x.write();
             x.keep();
             x.again();
