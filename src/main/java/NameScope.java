@@ -39,7 +39,7 @@ public final class NameScope {
         paper = new Row();
         laid = new Row();
         scopes = new Scopes();
-        pen = new Pen(globals, scopes);
+        pen = new Pen();
         term = new Row();
         spare = new Row();
     }
@@ -132,7 +132,7 @@ public final class NameScope {
         if (term.count() == 0) {
             return NONE;
         }
-        pen.put(term, paper);
+        pen.put(term, globals, paper);
         return paper.count();
     }
 
@@ -580,10 +580,10 @@ public final class NameScope {
      * next node that uses it lies before the end: so no last part is searched.
      */
     private static final class Pen {
-        private static final int NEVER = Integer.MAX_VALUE;
+        // Behind every node.
+        private static final int NEVER = MOST_NODES;
 
-        private final Globals globals;
-        private final Scopes scopes;
+        private final Scopes scopes = new Scopes();
         // A place for each global, then one for each node. Of a global or a binder: the next node
         // that uses it. Of a node that uses one: the node that does so next.
         private int[] next = new int[MOST_GLOBALS + FIRST_ROOM];
@@ -593,12 +593,7 @@ public final class NameScope {
         private boolean[] taken = new boolean[MOST_GLOBALS + FIRST_ROOM];
         private int nearCount = 0;
 
-        Pen(Globals globals, Scopes scopes) {
-            this.globals = globals;
-            this.scopes = scopes;
-        }
-
-        void put(Row term, Row paper) {
+        void put(Row term, Globals globals, Row paper) {
             makeRoom(MOST_GLOBALS + term.count());
             scopes.read(term);
             linkUses(term);
@@ -608,9 +603,9 @@ public final class NameScope {
                 scopes.enter(k);
                 int binder = scopes.innermost(k);
                 if (binder != NONE && term.second(binder) == k && paper.kind(binder) != ARROW) {
-                    paper.setBeside(binder, chooseName(binder, term, paper));
+                    paper.setBeside(binder, chooseName(binder, term, globals, paper));
                 }
-                putNode(k, term, paper);
+                putNode(k, term, globals, paper);
             }
         }
 
@@ -652,7 +647,7 @@ public final class NameScope {
             }
         }
 
-        private void putNode(int k, Row term, Row paper) {
+        private void putNode(int k, Row term, Globals globals, Row paper) {
             int kind = term.kind(k);
             long beside = term.beside(k);
             switch (kind) {
@@ -678,9 +673,9 @@ public final class NameScope {
             setNext(usedBy(k, term), nextOf(MOST_GLOBALS + k));
         }
 
-        private long chooseName(int binder, Row term, Row paper) {
+        private long chooseName(int binder, Row term, Globals globals, Row paper) {
             long own = term.beside(binder) == 0 ? Names.X : term.beside(binder);
-            gatherNear(binder, term.end(binder), paper);
+            gatherNear(binder, term.end(binder), globals, paper);
             for (int i = 0; i < nearCount && i < near.length; i++) {
                 if (near[i] == own) {
                     return Names.numbered(own, leastNumber(own));
@@ -689,7 +684,7 @@ public final class NameScope {
             return own;
         }
 
-        private void gatherNear(int binder, int end, Row paper) {
+        private void gatherNear(int binder, int end, Globals globals, Row paper) {
             nearCount = 0;
             int numbers = globals.count();
             for (int g = 0; g < numbers; g++) {
@@ -721,7 +716,7 @@ public final class NameScope {
             }
             for (int i = 0; i < nearCount && i < near.length; i++) {
                 int number = Names.numberBehind(own, near[i]);
-                if (number < nearCount && number < taken.length) {
+                if (number > 0 && number < nearCount && number < taken.length) {
                     taken[number] = true;
                 }
             }

@@ -14,10 +14,13 @@ public final class FaceTest {
         Due.is("is final", Modifier.isFinal(NameScope.class.getModifiers()), true);
         Due.is("is public", Modifier.isPublic(NameScope.class.getModifiers()), true);
         Due.is("methods", methods(), String.join(", ", new TreeSet<>(Arrays.asList(
-            "int again()", "int bind()", "int contract(int)", "int drop()", "int global(long)",
-            "int keep()", "int lay(int,long)", "int nodes()", "int uses(int)", "int write()",
-            "boolean same()", "long node(int,int)", "long written(int,int)"))));
-        Due.is("fields", fields(), "int FULL, int NONE");
+            "public int again()", "public int bind()", "public int contract(int)",
+            "public int drop()", "public int global(long)", "public int keep()",
+            "public int lay(int,long)", "public int nodes()", "public int uses(int)",
+            "public int write()", "public boolean same()", "public long node(int,int)",
+            "public long written(int,int)"))));
+        Due.is("fields", fields(),
+            "public static final int FULL, public static final int NONE");
         Constructor<?>[] all = NameScope.class.getDeclaredConstructors();
         Due.is("constructors", all.length, 1);
         Due.is("the constructor is public", Modifier.isPublic(all[0].getModifiers()), true);
@@ -30,7 +33,8 @@ public final class FaceTest {
         for (Method method : NameScope.class.getDeclaredMethods()) {
             if (isShown(method.getModifiers(), method.isSynthetic())) {
                 String parameters = Arrays.toString(method.getParameterTypes());
-                shown.add(method.getReturnType() + " " + method.getName() + "("
+                shown.add(Modifier.toString(method.getModifiers()) + " "
+                    + method.getReturnType() + " " + method.getName() + "("
                     + parameters.substring(1, parameters.length() - 1).replace(" ", "") + ")");
             }
         }
@@ -41,7 +45,8 @@ public final class FaceTest {
         TreeSet<String> shown = new TreeSet<>();
         for (Field field : NameScope.class.getDeclaredFields()) {
             if (isShown(field.getModifiers(), field.isSynthetic())) {
-                shown.add(field.getType() + " " + field.getName());
+                shown.add(Modifier.toString(field.getModifiers()) + " " + field.getType() + " "
+                    + field.getName());
             }
         }
         return String.join(", ", shown);
